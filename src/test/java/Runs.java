@@ -48,7 +48,7 @@ final class Runs {
         return bytes[at] << 24 | bytes[at + 1] << 16 | bytes[at + 2] << 8 | bytes[at + 3];
     }
 
-    private long ofProgram(String name, int[] a) {
+    long ofProgram(String name, int[] a) {
         switch (name) {
             case "customer": return loaf.customer(a[0], a[1], a[2]);
             case "put": return loaf.put(a[0], a[1], a[2]);
