@@ -18,29 +18,12 @@ public final class LimitsTest {
         }
     }
 
-    private static int four(String text, int at) {
-        int number = 0;
-        for (int i = at; i < at + 4; i++) {
-            number = number << 8 | (i < text.length() ? text.charAt(i) : 0);
-        }
-        return number;
-    }
-
-    private static int rule(ThirteenthLoaf x, String text) {
-        for (int i = 0; i < text.length(); i += 20) {
-            x.feed(four(text, i), four(text, i + 4), four(text, i + 8), four(text, i + 12),
-                    four(text, i + 16));
-        }
-        x.end(text.length());
-        return x.law();
-    }
-
     private static ThirteenthLoaf crowd(String law) {
         ThirteenthLoaf x = new ThirteenthLoaf();
         for (int i = 0; i < 8; i++) {
             x.customer(3 + i, i % 3, i % 2);
         }
-        expect(rule(x, law) == 0, "it is a law: " + law);
+        expect(Kit.law(x, law) == 0, "it is a law: " + law);
         x.force(0);
         return x;
     }
@@ -100,8 +83,8 @@ public final class LimitsTest {
         ThirteenthLoaf x = new ThirteenthLoaf();
         String law = "wants 1" + "+1".repeat(49);
         x.image(0);
-        for (int i = 0; i < 64; i++) {
-            expect(rule(x, law) >= 0, "a law");
+        for (int i = 0; i < 50; i++) {
+            expect(Kit.law(x, law) >= 0, "a law");
             x.back(0);
         }
     }

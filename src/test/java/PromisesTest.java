@@ -1,17 +1,5 @@
 /** For each promise answers worked out by hand: ordinary inputs, edges, wrong inputs. */
-public final class PromisesTest {
-    private static final int NONE = ThirteenthLoaf.NONE;
-    private static int wrong;
-    private static int asked;
-
-    private static void due(String what, long got, long want) {
-        asked++;
-        if (got != want) {
-            wrong++;
-            System.out.println(what + ": answered " + got + ", due is " + want);
-        }
-    }
-
+public final class PromisesTest extends Kit {
     public static void main(String[] args) {
         promise1();
         promise2();
@@ -44,63 +32,7 @@ public final class PromisesTest {
         promises31And32();
         promise33();
         promise34();
-        System.out.println(asked + " answers asked for, " + wrong + " not as due");
-        System.exit(wrong == 0 ? 0 : 1);
-    }
-
-    private static int four(String text, int at) {
-        int number = 0;
-        for (int i = at; i < at + 4; i++) {
-            number = number << 8 | (i < text.length() ? text.charAt(i) : 0);
-        }
-        return number;
-    }
-
-    private static void tape(ThirteenthLoaf x, String text) {
-        x.end(0);
-        for (int i = 0; i < text.length(); i += 20) {
-            x.feed(four(text, i), four(text, i + 4), four(text, i + 8), four(text, i + 12),
-                    four(text, i + 16));
-        }
-        x.end(text.length());
-    }
-
-    /** A LAW, in FORCE at once. */
-    private static int rule(ThirteenthLoaf x, String text) {
-        tape(x, text);
-        int law = x.law();
-        if (law >= 0) {
-            x.force(law);
-        }
-        return law;
-    }
-
-    private static ThirteenthLoaf with(int... bases) {
-        ThirteenthLoaf x = new ThirteenthLoaf();
-        for (int base : bases) {
-            x.customer(base, 0, 0);
-        }
-        return x;
-    }
-
-    private static void dueFault(String text, int place) {
-        ThirteenthLoaf x = new ThirteenthLoaf();
-        tape(x, text);
-        due("law of '" + text + "'", x.law(), place == NONE ? 0 : -6);
-        due("fault of '" + text + "'", x.fault(), place);
-        due("laws behind '" + text + "'", x.count(1), place == NONE ? 1 : 0);
-        due("tape behind '" + text + "'", x.count(4), 0);
-    }
-
-    /** What the one CUSTOMER of number 1, base 6, rank 4, oven 1, had 3, WANTS on day 9. */
-    private static void dueWants(String text, int want) {
-        ThirteenthLoaf x = new ThirteenthLoaf();
-        x.customer(1, 2, 0);
-        x.customer(6, 4, 1);
-        x.put(1, 3, 3);
-        x.terms(2, 9);
-        due("law of '" + text + "'", rule(x, text), 0);
-        due("wants by '" + text + "'", x.of(1, 5), want);
+        finish();
     }
 
     private static void promise1() {
