@@ -13,6 +13,7 @@ public final class BoundsOfPromisesTest extends Kit {
         promise7TwentyBytes();
         promise7MoreThan400();
         promise8FirstBytesAlone();
+        promise8CutWithinAToken();
         promise8NotSoMany();
         promise9TheTapeIsEmptyThen();
         promise9TheTapeIsEmpty();
@@ -44,6 +45,7 @@ public final class BoundsOfPromisesTest extends Kit {
         promise26NotSoMany();
         promise27HowManyThereWere();
         promise28ADayGoesBy();
+        promise28AsToldByNumber();
         promise28NoSuchOrder();
         promise28AboveItsMost();
         promise28AboveItsMostByAnOrder();
@@ -53,6 +55,7 @@ public final class BoundsOfPromisesTest extends Kit {
         promise30None();
         promise31Kept();
         promise32NotKept();
+        promise33NothingAndAll();
         promise33Others();
         promise33Refused();
         promise34TheLatestCall();
@@ -227,6 +230,30 @@ public final class BoundsOfPromisesTest extends Kit {
         due("two", x.row(), 2);
         due("the first", digits(x.of(0, 0), x.of(0, 1), x.of(0, 2)), 561);
         due("the next, not the one that was cut", digits(x.of(1, 0), x.of(1, 1), x.of(1, 2)), 990);
+    }
+
+    private static void promise8CutWithinAToken() {
+        says("Promise 8: The TAPE has its first n bytes alone: what stood behind is no part of a TOKEN");
+        ThirteenthLoaf x = with(20);
+        tape(x, "waitsss");
+        x.end(5);
+        due("letters", x.law(), 0);
+        tape(x, "wants 123");
+        x.end(8);
+        due("digits", x.law(), 1);
+        x.force(1);
+        due("the first two of them", x.of(0, 5), 12);
+        tape(x, "wants day");
+        x.end(8);
+        due("a word that is cut", x.law(), -6);
+        due("its place", x.fault(), 6);
+        tape(x, "wants 1;waits");
+        x.end(8);
+        due("what follows", x.law(), -6);
+        due("at the end", x.fault(), 8);
+        tape(x, "wants 1 x");
+        x.end(8);
+        due("a blank at the end", x.law(), 2);
     }
 
     private static void promise8NotSoMany() {
@@ -720,6 +747,18 @@ public final class BoundsOfPromisesTest extends Kit {
         due("no day went by", y.count(13), 0);
     }
 
+    private static void promise28AsToldByNumber() {
+        says("Promise 28: as TOLD (how 0)");
+        ThirteenthLoaf x = with(1, 2, 3, 4, 5, 6, 7, 8);
+        // The 13th of 36 is among 11 to 15, the 26th among 22 to 28.
+        due("blessed", x.bake(0), 2);
+        due("had", digits(x.of(0, 3), x.of(1, 3), x.of(2, 3), x.of(3, 3), x.of(4, 3), x.of(5, 3),
+                x.of(6, 3), x.of(7, 3)), 1010);
+        due("bought", digits(x.of(0, 4), x.of(1, 4), x.of(2, 4), x.of(3, 4), x.of(4, 4), x.of(5, 4),
+                x.of(6, 4), x.of(7, 4)), 12345678);
+        due("baked", x.count(14), 36);
+    }
+
     private static void promise28NoSuchOrder() {
         says("Promise 28: -3 there is no such ORDER");
         ThirteenthLoaf x = with(5, 8);
@@ -887,6 +926,33 @@ public final class BoundsOfPromisesTest extends Kit {
         y.customer(1, 1, 1);
         due("back to nobody", y.back(0), 0);
         due("nobody", y.count(0), 0);
+    }
+
+    private static void promise33NothingAndAll() {
+        says("Promise 33: 0 CUSTOMERS, 1 LAWS, 2 SIGHTS, 3 CLAIMS, 4 bytes of the TAPE, .. 10 the LAW in FORCE,"
+                + " 11 .. 15 TERMS 0 .. 4");
+        ThirteenthLoaf x = new ThirteenthLoaf();
+        int[] nothing = {0, 0, 0, 0, 0, 0, 0, 0, 0, 0, NONE, 13, 0, 0, 0, 0};
+        for (int what = 0; what < nothing.length; what++) {
+            due("nothing, " + what, x.count(what), nothing[what]);
+        }
+        int[] most = {20, 9, 9999, 999999, 999998};
+        for (int i = 0; i < 8; i++) {
+            x.customer(i, i, 0);
+            x.sight(0, i);
+            x.claim(0, i);
+        }
+        for (int i = 0; i < 6; i++) {
+            rule(x, "waits");
+        }
+        for (int i = 0; i < 5; i++) {
+            x.terms(i, most[i]);
+        }
+        tape(x, " ".repeat(400));
+        int[] all = {8, 6, 8, 8, 400, 0, 0, 0, 0, 0, 5, 20, 9, 9999, 999999, 999998};
+        for (int what = 0; what < all.length; what++) {
+            due("all, " + what, x.count(what), all[what]);
+        }
     }
 
     private static void promise33Others() {

@@ -8,6 +8,7 @@ public final class BoundsOfTerms2Test extends Kit {
         theTapeHas400BytesAtMost();
         noneIsInForceAtFirst();
         rowsOfLettersAreLongest();
+        wordsAreWhole();
         rowsOfDigitsAreLongest();
         otherBytesAreSingle();
         bytesBesideLettersAndDigits();
@@ -20,6 +21,7 @@ public final class BoundsOfTerms2Test extends Kit {
         sumsAndTheirParts();
         numbersGoTo1000();
         partsAreFiftyAtMost();
+        partsOfEachLaw();
         bracketsAreEightAtMost();
         theEndsFault();
         othersWhereWaitsIsAsked();
@@ -30,6 +32,7 @@ public final class BoundsOfTerms2Test extends Kit {
         cutTowards0();
         aTestIsBroken();
         aClauseHolds();
+        comparisonsWithinTests();
         whatStandsBehindOr();
         whatStandsBehindAnd();
         wantsFrom0To40();
@@ -94,11 +97,36 @@ public final class BoundsOfTerms2Test extends Kit {
         dueFault("waits if 1<2or 2<3and 3<4", NONE);
         dueFault("waits if 1<2 orday<3", 13);
         dueFault("waits if 1<2 andday<3", 13);
+        dueFault("waitsa", 0);
+        dueFault("waitsz", 0);
+        dueFault("zwaits", 0);
+        dueFault("wants dayz", 6);
         dueFault("wants a", 6);
         dueFault("wants z", 6);
         dueFault("wants if", 6);
         dueFault("wants or", 6);
         dueFault("wants wants", 6);
+    }
+
+    /** Each word with one letter wrong, one too few and one too many. */
+    private static void wordsAreWhole() {
+        says("\"wants\", \"waits\", \"if\", \"or\", \"and\", \"not\", \"who\" .. \"theirs\"");
+        String[] texts = {"wants| 1", "waits|", "waits |if| 1<2", "waits if 1<2 |or| 1<2",
+            "waits if 1<2 |and| 1<2", "waits if |not| 1<2", "wants |who|", "wants |base|", "wants |rank|",
+            "wants |oven|", "wants |had|", "wants |day|", "wants |other|", "wants |theirs|"};
+        for (String text : texts) {
+            String[] cut = text.startsWith("wants|") || text.startsWith("waits|")
+                    ? ("|" + text + " ").split("\\|") : (text + " ").split("\\|");
+            String word = cut[1];
+            dueFault(cut[0] + word + cut[2], NONE);
+            int place = cut[0].length();
+            for (int i = 0; i < word.length(); i++) {
+                dueFault(cut[0] + word.substring(0, i) + "x" + word.substring(i + 1) + cut[2], place);
+                dueFault(cut[0] + word.substring(0, i) + word.substring(i + 1) + cut[2], place);
+            }
+            dueFault(cut[0] + word + "s" + cut[2], place);
+            dueFault(cut[0] + word.toUpperCase() + cut[2], place);
+        }
     }
 
     private static void rowsOfDigitsAreLongest() {
@@ -220,6 +248,15 @@ public final class BoundsOfTerms2Test extends Kit {
         dueFault("waits if or 1<2", 9);
         dueFault("waits if 1<2 or or 1<2", 16);
         dueFault("waits if 1<2 and or 1<2", 17);
+        dueFault("waits if 1<2 and and 1<2", 17);
+        dueFault("waits if 1<2 or and 1<2", 16);
+        dueFault("waits if and 1<2", 9);
+        dueFault("waits if 1<2 not 1<2", 13);
+        dueFault("waits if (", 10);
+        dueFault("waits if (not", 13);
+        dueFault("waits if (1<", 12);
+        dueFault("waits if (1<;waits", 12);
+        dueFault("waits if (1<2;waits", 13);
         dueFault("waits if 1<2 and not 1>2 or (1=2 and 1<2)", NONE);
     }
 
@@ -234,6 +271,11 @@ public final class BoundsOfTerms2Test extends Kit {
         dueFault("wants 1/ if", 9);
         dueFault("wants 1*-1", 8);
         dueFault("wants []", 7);
+        dueFault("wants [", 7);
+        dueFault("wants [;wants 1", 7);
+        dueFault("wants [1+", 9);
+        dueFault("wants [1+;wants 1", 9);
+        dueFault("wants [1;wants 1", 8);
         dueFault("wants [1", 8);
         dueFault("wants [1)", 8);
         dueFault("wants [1]1", 9);
@@ -279,6 +321,20 @@ public final class BoundsOfTerms2Test extends Kit {
         dueFault(halves + "<1+1", halves.length() + 3);
         dueFault("wants [[1]]" + "+[1]".repeat(49), NONE);
         dueWants("wants 1" + "+1".repeat(38) + "+0*1".repeat(5) + "+0", 39);
+    }
+
+    private static void partsOfEachLaw() {
+        says("50 PARTS .. at most: in each TEXT");
+        ThirteenthLoaf x = with(20);
+        String most = "+0*1".repeat(24) + "+1";
+        due("a FAULT at the 51st", law(x, "wants 0+0" + most), -6);
+        for (int i = 0; i < 6; i++) {
+            due("law " + i + " of 50", law(x, "wants " + i + most), i);
+        }
+        for (int i = 0; i < 6; i++) {
+            x.force(i);
+            due("by law " + i, x.of(0, 5), i + 1);
+        }
     }
 
     private static void bracketsAreEightAtMost() {
@@ -426,6 +482,24 @@ public final class BoundsOfTerms2Test extends Kit {
         dueWants("wants 8 if 1>0", 8);
         dueWants("wants 8 if 0>1", 6);
         dueWants("wants 8 if 0=1", 6);
+    }
+
+    private static void comparisonsWithinTests() {
+        says("SUM (\"<\" | \">\" | \"=\") SUM: so or not, wherever it stands");
+        for (String so : new String[] {"0<1", "1>0", "1=1"}) {
+            dueWants("wants 8 if not " + so, 6);
+            dueWants("wants 8 if not not " + so, 8);
+            dueWants("wants 8 if " + so + " or 1/0=1", 8);
+            dueWants("wants 8 if " + so + " and 1=2", 6);
+            dueWants("wants 8 if 1=2 or " + so, 8);
+            dueWants("wants 8 if 1=1 and " + so, 8);
+        }
+        for (String not : new String[] {"1<0", "0>1", "1=0", "1<1", "1>1"}) {
+            dueWants("wants 8 if not " + not, 8);
+            dueWants("wants 8 if not (" + not + " and 1/0=1)", 8);
+            dueWants("wants 8 if " + not + " or 1=2", 6);
+            dueWants("wants 8 if 1=1 and " + not, 6);
+        }
     }
 
     private static void whatStandsBehindOr() {

@@ -10,6 +10,7 @@ public final class BoundsOfTerms3Test extends Kit {
         ordersInWhichNobodyIsAhead();
         ordersInACircle();
         nextLoavesOfHisOven();
+        nextLoavesOfTheSecondOven();
         toldIfAnOrderOrNot();
         bestAtLeastOne();
         bestIsTheFirst();
@@ -20,6 +21,7 @@ public final class BoundsOfTerms3Test extends Kit {
         fairestIsTheFirst();
         yearOfOneDay();
         yearOf30Days();
+        yearOfManyWays();
         yearWithHadAsItIs();
         yearWithDaysOn();
         yearBeyondTheMost();
@@ -179,6 +181,43 @@ public final class BoundsOfTerms3Test extends Kit {
         due("and nobody's else", x.served(2, 0) + x.served(3, 0), 0);
     }
 
+    /** Three of OVEN 1, of which 18 were BAKED: 26 and 39 come next. */
+    private static void nextLoavesOfTheSecondOven() {
+        says("one by one gets as many of the next loaves of his OVEN as he WANTS");
+        ThirteenthLoaf x = new ThirteenthLoaf();
+        x.customer(40, 0, 0);
+        x.customer(4, 0, 1);
+        x.customer(3, 0, 1);
+        x.customer(5, 0, 1);
+        x.terms(4, 18);
+        due("the first's", x.served(1, 1), 19);
+        due("the second's", x.served(2, 1), 23);
+        due("the third's", x.served(3, 1), 26);
+        due("blessed", digits(x.served(1, 0), x.served(2, 0), x.served(3, 0)), 1);
+        due("two get one", x.best(0), 2);
+        due("in all orders", x.best(1), 24);
+        // The 26th is the day's 8th: the third one's unless he comes first, then his who comes next.
+        due("the third's chances", x.chances(3, 1), 16);
+        due("the second's chances", x.chances(2, 1), 4);
+        due("the first's chances", x.chances(1, 1), 4);
+        due("fairest", x.fairest(0), 8);
+        x.sight(2, 1);
+        due("counts by those ahead", x.counts(1, 0), 6);
+        // The 39th is the next day's 9th, and never the second one's.
+        due("never, two days", x.never(2, 2), 20 * 24);
+        x.terms(4, 25);
+        due("26 is the first one's", x.chances(2, 1), 8);
+        due("never, 26 and 39", x.never(2, 2), 16 * 16);
+        due("year", x.year(NONE), 3);
+        due("as TOLD", x.bake(0), 4);
+        due("had", digits(x.of(0, 3), x.of(1, 3), x.of(2, 3), x.of(3, 3)), 3100);
+        due("baked", x.count(14) * 100 + x.count(15), 4037);
+        x.put(2, 2, 0);
+        x.terms(3, 0);
+        due("one goes over to OVEN 0", x.served(2, 1), 41);
+        due("he gets none, nor one of two at OVEN 1", x.best(0), 2);
+    }
+
     private static void toldIfAnOrderOrNot() {
         says("As TOLD: by number, if that is an ORDER or not");
         ThirteenthLoaf x = with(5, 8);
@@ -204,6 +243,9 @@ public final class BoundsOfTerms3Test extends Kit {
         ThirteenthLoaf all = with(13, 13, 13, 13, 13, 13, 13, 13);
         due("all get one", all.best(0), 8);
         due("all in all orders", all.best(1), 40320);
+        ThirteenthLoaf most = with(40);
+        most.terms(0, 2);
+        due("one gets 20", most.best(0), 1);
     }
 
     private static void bestIsTheFirst() {
@@ -279,6 +321,10 @@ public final class BoundsOfTerms3Test extends Kit {
         y.terms(0, 20);
         y.put(0, 3, 9999);
         due("the most had", y.fairest(0), 20 * 9999 - 40 + 2 * 20);
+        ThirteenthLoaf z = with(40);
+        z.terms(0, 2);
+        z.put(0, 4, 7);
+        due("the most got", z.fairest(0), 7);
     }
 
     private static void fairestIsTheFirst() {
@@ -321,6 +367,20 @@ public final class BoundsOfTerms3Test extends Kit {
         due("31 days", x.year(NONE), NONE);
         due("no first of them", x.year(0), NONE);
         due("no 31st of them", x.year(30), NONE);
+    }
+
+    private static void yearOfManyWays() {
+        says("each by an ORDER of its own: however many ways there are");
+        ThirteenthLoaf x = with(5, 8);
+        x.customer(5, 0, 1);
+        x.customer(8, 0, 1);
+        x.customer(0, 0, 0);
+        // Four had one behind the first DAY; then two of them on each, by four ways a DAY.
+        rule(x, "wants 13 if day=0 and who<4; wants 13 if who=4 and day=20");
+        due("21 days", x.year(NONE), 21);
+        due("the first", x.year(0), 15);
+        due("the 20th", x.year(19), 15);
+        due("the 21st", x.year(20), 31);
     }
 
     private static void yearWithHadAsItIs() {
@@ -409,6 +469,20 @@ public final class BoundsOfTerms3Test extends Kit {
         due("all but the highest, then all", y.year(NONE), 2);
         due("seven as bits", y.year(0), 127);
         due("all eight as bits", y.year(1), 255);
+        ThirteenthLoaf z = with(13, 13, 13, 13, 13, 13);
+        z.customer(5, 0, 1);
+        z.customer(8, 0, 1);
+        due("one of the highest two", z.year(0), 127);
+        rule(z, "waits if day=1 and who=6");
+        due("two days still", z.year(NONE), 2);
+        due("the other one of them", z.year(0), 191);
+        rule(z, "waits if day=1 and who=7");
+        due("the one again", z.year(0), 127);
+        ThirteenthLoaf shorter = with(5, 6);
+        due("three days", shorter.year(NONE), 3);
+        shorter.put(1, 0, 8);
+        due("two days then", shorter.year(NONE), 2);
+        due("all behind the last of them", shorter.year(1), 3);
     }
 
     private static void chancesOfJustSoMany() {

@@ -99,25 +99,24 @@ class Kit {
         due("tape behind '" + text + "'", x.count(4), 0);
     }
 
-    /** What the one CUSTOMER of number 1, base 6, rank 4, oven 1, had 3, WANTS on day 9. */
-    static void dueWants(String text, int want) {
+    /** CUSTOMER 1 has base 6, rank 4, oven 1, had 3, on day 9; CUSTOMER 0 has rank 2. */
+    private static ThirteenthLoaf ruled(String text) {
         ThirteenthLoaf x = new ThirteenthLoaf();
         x.customer(1, 2, 0);
         x.customer(6, 4, 1);
         x.put(1, 3, 3);
         x.terms(2, 9);
         due("law of '" + text + "'", rule(x, text), 0);
-        due("wants by '" + text + "'", x.of(1, 5), want);
+        return x;
     }
 
-    /** Whether that CUSTOMER, of RANK 4, WAITS for CUSTOMER 0, whose RANK is 2. */
+    /** What that CUSTOMER 1 WANTS by a LAW. */
+    static void dueWants(String text, int want) {
+        due("wants by '" + text + "'", ruled(text).of(1, 5), want);
+    }
+
+    /** Whether he WAITS for CUSTOMER 0 by a LAW. */
     static void dueWaits(String text, int want) {
-        ThirteenthLoaf x = new ThirteenthLoaf();
-        x.customer(1, 2, 0);
-        x.customer(6, 4, 1);
-        x.put(1, 3, 3);
-        x.terms(2, 9);
-        due("law of '" + text + "'", rule(x, text), 0);
-        due("waits by '" + text + "'", x.waits(1, 0), want);
+        due("waits by '" + text + "'", ruled(text).waits(1, 0), want);
     }
 }

@@ -28,6 +28,11 @@ final class Look {
         return look.seen;
     }
 
+    /** Asks for all that has to be worked out, and lets the object go on. */
+    static void ask(ThirteenthLoaf x) {
+        new Look(x).answers();
+    }
+
     private void note(String call, long answer) {
         seen.put(call + when, answer);
     }
