@@ -320,6 +320,11 @@ public final class BoundsOfTerms2Test extends Kit {
         dueFault(halves + "<1", NONE);
         dueFault(halves + "<1+1", halves.length() + 3);
         dueFault("wants [[1]]" + "+[1]".repeat(49), NONE);
+        dueFault("wants 1" + "*1".repeat(49), NONE);
+        dueFault("wants 1" + "*1".repeat(50), 106);
+        dueFault("waits if 1<1" + " or 1<1".repeat(24), NONE);
+        dueFault("waits if 1<1" + " and 1<1".repeat(24), NONE);
+        dueFault("waits if 1<1" + " or 1<1".repeat(25), 12 + 24 * 7 + 4);
         dueWants("wants 1" + "+1".repeat(38) + "+0*1".repeat(5) + "+0", 39);
     }
 

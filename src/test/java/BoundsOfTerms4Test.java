@@ -16,6 +16,7 @@ public final class BoundsOfTerms4Test extends Kit {
         crumbsAtTheEnd();
         crumbsWithoutRoom();
         imagesKeepAllElse();
+        imagesKeepAsManyAsThereCanBe();
         imagesDoNotKeep();
         imagesStay();
         constants();
@@ -272,6 +273,34 @@ public final class BoundsOfTerms4Test extends Kit {
         // Of 7 loaves one is BLESSED behind 5 to 11 and 18 to 24 of the 25 of a ROUND.
         due("the sight", x.counts(1, NONE), 14);
         due("its first", x.counts(1, 0), 5);
+    }
+
+    private static void imagesKeepAsManyAsThereCanBe() {
+        says("IMAGES 0, 1 keep all but ..: each of 8 CUSTOMERS, 6 LAWS, 8 SIGHTS, 8 CLAIMS");
+        for (int odd = 0; odd < 8; odd++) {
+            ThirteenthLoaf x = with(0, 0, 0, 0, 0, 0, 0, 0);
+            x.put(odd, 0, 7);
+            for (int i = 0; i < 8; i++) {
+                x.sight(i, i == odd ? 20 : 0);
+                x.claim(i, i == odd ? 20 : 0);
+            }
+            for (int i = 0; i < 6; i++) {
+                law(x, i == odd ? "waits" : "wants base");
+            }
+            x.image(0);
+            x.put(odd, 0, 1);
+            x.forget();
+            for (int i = 0; i < 8; i++) {
+                x.sight(i, 0);
+                x.claim(i, 0);
+            }
+            x.back(0);
+            due("customer " + odd, x.of(odd, 0), 7);
+            due("sight " + odd, x.counts(0, NONE), 0);
+            due("claim " + odd, x.wrong(0), 1);
+            x.force(Math.min(odd, 5));
+            due("law " + odd, x.orders(), odd < 6 ? 0 : 40320);
+        }
     }
 
     private static void imagesDoNotKeep() {
