@@ -33,6 +33,7 @@ public final class BoundsOfPromisesTest extends Kit {
         promise19NoOrder();
         promise19NotSoMany();
         promise20HowMany();
+        promise20FewerThanBefore();
         promise20NotIn30();
         promise21SoMany();
         promise22FromOneToFour();
@@ -548,6 +549,23 @@ public final class BoundsOfPromisesTest extends Kit {
         x.put(1, 0, 6);
         due("by what stands now", x.year(NONE), 3);
         due("none on the first of 11 loaves a day", x.year(0), 0);
+    }
+
+    private static void promise20FewerThanBefore() {
+        says("Promise 20: who had one behind its i-th DAY by its WAY, as bits");
+        ThirteenthLoaf x = with(1, 1, 1, 1, 1, 1, 1);
+        x.terms(0, 7);
+        due("one a day", x.year(NONE), 7);
+        due("all behind the seventh", x.year(6), 127);
+        for (int customer = 0; customer < 7; customer++) {
+            x.put(customer, 0, 2);
+        }
+        due("two a day", x.year(NONE), 4);
+        due("behind the first of four", x.year(0), 3);
+        due("one new behind the second", x.year(1), 7);
+        due("two new behind the third", x.year(2), 31);
+        due("all behind the fourth", x.year(3), 127);
+        due("no fifth any more", x.year(4), NONE);
     }
 
     private static void promise20NotIn30() {

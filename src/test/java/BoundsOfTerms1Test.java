@@ -10,11 +10,13 @@ public final class BoundsOfTerms1Test extends Kit {
         aRowFillsUpToEight();
         numbersOfNewCustomers();
         numbersOfCustomersInARow();
+        numbersOneByOne();
         numbersThatArePut();
         hadAndBoughtAreNothingAtFirst();
         hadAndBoughtAreNothingForOneWhoComesAgain();
         termsAtFirst();
         termsWithinBounds();
+        termsOneByOne();
         aNumberAheadOfNoSuch();
         aNumberAheadOfNoRoom();
         noSuchAheadOfNoRoom();
@@ -93,6 +95,37 @@ public final class BoundsOfTerms1Test extends Kit {
         }
     }
 
+    private static void numbersOneByOne() {
+        says("BASE 0 .. 40, RANK 0 .. 9, OVEN 0 or 1: each number that a byte can be, and beyond");
+        for (int number = -3; number < 260; number++) {
+            newCustomer("base " + number, number, 2, 0, number >= 0 && number <= 40);
+            newCustomer("rank " + number, 3, number, 0, number >= 0 && number <= 9);
+            newCustomer("oven " + number, 3, 2, number, number == 0 || number == 1);
+            for (int what = 0; what < 3; what++) {
+                ThirteenthLoaf x = with(1);
+                int was = x.of(0, what);
+                boolean canBe = number >= 0 && number <= MOST_OF[what];
+                due(NAMES_OF[what] + " put " + number, x.put(0, what, number), canBe ? was : -1);
+                due(NAMES_OF[what] + " behind it", x.of(0, what), canBe ? number : was);
+                oneInARow(what, number);
+            }
+        }
+    }
+
+    private static void oneInARow(int what, int number) {
+        if (number < 0 || number > 255) {
+            return;
+        }
+        ThirteenthLoaf x = new ThirteenthLoaf();
+        int[] three = {3, 2, 1};
+        three[what] = number;
+        bytes(x, three);
+        boolean canBe = number <= MOST_OF[what];
+        due(NAMES_OF[what] + " in a row " + number, x.row(), canBe ? 1 : 0);
+        due(NAMES_OF[what] + " of him", x.of(0, what), canBe ? number : NONE);
+        due(NAMES_OF[what] + " crumbs", x.crumbs(), canBe ? 0 : 1);
+    }
+
     private static void numbersThatArePut() {
         says("BASE 0 .. 40, RANK 0 .. 9, OVEN 0 or 1; HAD 0 .. 9999, BOUGHT 0 .. 999,999");
         for (int what = 0; what < 5; what++) {
@@ -164,6 +197,22 @@ public final class BoundsOfTerms1Test extends Kit {
             for (int other = 0; other < 5; other++) {
                 if (other != what) {
                     due(name + " is no other", x.count(11 + other), other == 0 ? 13 : 0);
+                }
+            }
+        }
+    }
+
+    private static void termsOneByOne() {
+        says("TERMS: 0 DOZEN 2 .. 20, 1 LEAP 0 .. 9, 2 DAY, 3, 4 BAKED: each number around the bounds");
+        for (int what = -3; what < 9; what++) {
+            for (int number = -3; number < 30; number++) {
+                ThirteenthLoaf x = new ThirteenthLoaf();
+                boolean canBe = what >= 0 && what < 5 && number >= LEAST_TERM[what] && number <= MOST_TERM[what];
+                int was = x.count(11 + Math.max(0, Math.min(4, what)));
+                due("term " + what + " is " + number, x.terms(what, number), canBe ? was : -1);
+                due("term " + what + " refused", x.count(5), canBe ? 0 : 1);
+                if (canBe) {
+                    due("term " + what + " behind it", x.count(11 + what), number);
                 }
             }
         }

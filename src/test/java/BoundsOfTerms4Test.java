@@ -17,6 +17,7 @@ public final class BoundsOfTerms4Test extends Kit {
         crumbsWithoutRoom();
         imagesKeepAllElse();
         imagesKeepAsManyAsThereCanBe();
+        imagesKeepAboutWhom();
         imagesDoNotKeep();
         imagesStay();
         constants();
@@ -301,6 +302,29 @@ public final class BoundsOfTerms4Test extends Kit {
             x.force(Math.min(odd, 5));
             due("law " + odd, x.orders(), odd < 6 ? 0 : 40320);
         }
+    }
+
+    private static void imagesKeepAboutWhom() {
+        says("IMAGES 0, 1 keep all but ..: about whom each of 8 SIGHTS, 8 CLAIMS is");
+        ThirteenthLoaf x = with(1, 1, 1, 1, 1, 1, 1, 1);
+        x.terms(0, 8);
+        for (int i = 0; i < 8; i++) {
+            x.sight(i, i == 7 ? 1 : 0);
+            x.claim(i, 0);
+        }
+        x.image(1);
+        x.forget();
+        for (int i = 0; i < 8; i++) {
+            x.sight(0, 0);
+            x.claim(0, 0);
+        }
+        due("counts with 0 alone", x.counts(0, NONE), 7);
+        due("claims of 0 alone", x.wrong(0), 0);
+        x.back(1);
+        due("counts", x.counts(0, NONE), 1);
+        due("the count", x.counts(0, 0), 0);
+        due("the last one has a blessed loaf", x.wrong(0), 1);
+        due("by every order", x.wrong(1), 40320);
     }
 
     private static void imagesDoNotKeep() {

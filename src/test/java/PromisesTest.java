@@ -22,13 +22,16 @@ public final class PromisesTest extends Kit {
         promise18();
         promise19();
         promise20();
+        wayOfAYear();
         promise21();
         promise22();
         promises23And24();
         promises25And26();
         promise27();
         promise28();
+        bakedByItsOrder();
         promises29And30();
+        drawnByItsOrder();
         promises31And32();
         promise33();
         promise34();
@@ -482,6 +485,17 @@ public final class PromisesTest extends Kit {
         due("year beyond the last day", y.year(NONE), 2);
     }
 
+    private static void wayOfAYear() {
+        ThirteenthLoaf x = with(0, 0, 0);
+        x.terms(0, 2);
+        rule(x, "wants 2 if who=2 and day=0; wants 1 if who<2 and day>0");
+        // The one in the first two days is 2 alone, then 0 or 1, whoever comes second.
+        due("three days", x.year(NONE), 3);
+        due("2 behind the first", x.year(0), 4);
+        due("0 too behind the second, as 1 too is higher", x.year(1), 5);
+        due("all behind the third", x.year(2), 7);
+    }
+
     private static void promise21() {
         ThirteenthLoaf x = with(5, 8, 26);
         due("chances of two", x.chances(2, 2), 6);
@@ -649,6 +663,49 @@ public final class PromisesTest extends Kit {
         due("bake beyond the most bought", y.bake(0), -5);
         due("had stays", y.of(0, 3), 9999);
         due("bake of nobody", new ThirteenthLoaf().bake(2), 0);
+    }
+
+    /** BEST is 1 ahead of 0, who get a 13th and a 26th loaf; by number 1 gets both. */
+    private static ThirteenthLoaf bestIsNotByNumber() {
+        ThirteenthLoaf x = with(12, 14);
+        x.put(0, 3, 2);
+        return x;
+    }
+
+    private static void bakedByItsOrder() {
+        ThirteenthLoaf told = bestIsNotByNumber();
+        due("as TOLD", told.bake(0), 2);
+        due("as TOLD, had", told.of(0, 3) * 10 + told.of(1, 3), 22);
+        ThirteenthLoaf best = bestIsNotByNumber();
+        best.claim(1, 2);
+        due("BEST", digits(best.best(2), best.best(3)), 10);
+        due("by BEST", best.bake(1), 2);
+        due("by BEST, had", best.of(0, 3) * 10 + best.of(1, 3), 31);
+        due("by BEST, bought", best.of(0, 4) * 100 + best.of(1, 4), 1214);
+        ThirteenthLoaf fairest = bestIsNotByNumber();
+        fairest.claim(1, 1);
+        due("FAIREST", digits(fairest.fairest(1), fairest.fairest(2)), 1);
+        due("by FAIREST", fairest.bake(2), 2);
+        due("by FAIREST, had", fairest.of(0, 3) * 10 + fairest.of(1, 3), 22);
+        fairest.put(1, 3, 9);
+        // Now 1 is to get as few as can be.
+        due("FAIREST then", digits(fairest.fairest(1), fairest.fairest(2)), 10);
+        due("by FAIREST then", fairest.bake(2), 2);
+        due("by FAIREST then, had", fairest.of(0, 3) * 10 + fairest.of(1, 3), 40);
+        ThirteenthLoaf much = bestIsNotByNumber();
+        much.put(0, 4, 999988);
+        due("by BEST, 0 beyond the most bought", much.bake(1), -5);
+        much.put(0, 4, 999987);
+        due("by BEST, 0 up to the most bought", much.bake(1), 2);
+        due("by BEST, the most bought", much.of(0, 4), 999999);
+    }
+
+    private static void drawnByItsOrder() {
+        ThirteenthLoaf x = bestIsNotByNumber();
+        // The first draw from 0 is 12345, the second one of two.
+        due("queues", x.queues(0, 1), 2);
+        due("1 stood first", x.drawn(0, 1) * 10 + x.drawn(1, 1), 10);
+        due("one each", x.drawn(0, 0) * 10 + x.drawn(1, 0), 11);
     }
 
     private static void promises29And30() {
