@@ -60,6 +60,7 @@ public final class BoundsOfPromisesTest extends Kit {
         promise33Others();
         promise33Refused();
         promise34TheLatestCall();
+        promise34NotRefused();
         promise34AheadOfAny();
         finish();
     }
@@ -1052,6 +1053,39 @@ public final class BoundsOfPromisesTest extends Kit {
         due("back refused", x.back(1) - x.status(), 0);
         due("back", x.back(0) * 0 + x.status(), 0);
         due("each of twelve once", x.count(5) + x.count(6) + x.count(7) + x.count(8) + x.count(9), 12);
+    }
+
+    private static void promise34NotRefused() {
+        says("Promise 34: 0 if it was not, whatever the answer was");
+        ThirteenthLoaf x = with(5, 5);
+        due("customer answers 2", x.customer(13, 0, 0), 2);
+        due("status", x.status(), 0);
+        due("put answers 5", x.put(0, 0, 6), 5);
+        due("status behind put", x.status(), 0);
+        due("terms answers 13", x.terms(0, 12), 13);
+        due("status behind terms", x.status(), 0);
+        bytes(x, 1, 1, 1, 2, 2, 0);
+        due("row answers 2", x.row(), 2);
+        due("status behind row", x.status(), 0);
+        law(x, "wants 12");
+        due("law answers 1", law(x, "wants 1"), 1);
+        due("status behind law", x.status(), 0);
+        x.force(1);
+        due("force answers 1", x.force(0), 1);
+        due("status behind force", x.status(), 0);
+        x.sight(0, 0);
+        due("sight answers 2", x.sight(0, 1), 2);
+        due("status behind sight", x.status(), 0);
+        x.claim(0, 0);
+        due("claim answers 2", x.claim(0, 1), 2);
+        due("status behind claim", x.status(), 0);
+        due("bake answers 5", x.bake(0), 5);
+        due("status behind bake", x.status(), 0);
+        due("queues answers 10", x.queues(0, 2), 10);
+        due("status behind queues", x.status(), 0);
+        for (int what = 5; what <= 9; what++) {
+            due("nothing was refused, " + what, x.count(what), 0);
+        }
     }
 
     private static void promise34AheadOfAny() {

@@ -13,6 +13,7 @@ public final class BoundsOfTerms1Test extends Kit {
         numbersOneByOne();
         numbersThatArePut();
         hadAndBoughtAreNothingAtFirst();
+        othersStayAsOneComes();
         hadAndBoughtAreNothingForOneWhoComesAgain();
         termsAtFirst();
         termsWithinBounds();
@@ -152,6 +153,29 @@ public final class BoundsOfTerms1Test extends Kit {
         due("bought by customer()", x.of(0, 4), 0);
         due("had by row()", x.of(1, 3), 0);
         due("bought by row()", x.of(1, 4), 0);
+    }
+
+    private static void othersStayAsOneComes() {
+        says("HAD .. 0 at first, BOUGHT .. (0): of him who comes, not of the others");
+        ThirteenthLoaf x = new ThirteenthLoaf();
+        for (int i = 0; i < 8; i++) {
+            if (i % 2 == 0) {
+                due("comes", x.customer(20 + i, 9 - i, i / 2 % 2), i);
+            } else {
+                bytes(x, 20 + i, 9 - i, i / 2 % 2);
+                due("comes in a row", x.row(), 1);
+            }
+            due("had at first", x.of(i, 3), 0);
+            due("bought at first", x.of(i, 4), 0);
+            x.put(i, 3, 30 + i);
+            x.put(i, 4, 40 + i);
+            for (int c = 0; c <= i; c++) {
+                int[] traits = {20 + c, 9 - c, c / 2 % 2, 30 + c, 40 + c};
+                for (int what = 0; what < 5; what++) {
+                    due(NAMES_OF[what] + " of " + c + " behind " + i, x.of(c, what), traits[what]);
+                }
+            }
+        }
     }
 
     private static void hadAndBoughtAreNothingForOneWhoComesAgain() {

@@ -6,6 +6,7 @@ public final class BoundsOfTerms2Test extends Kit {
     public static void main(String[] args) {
         lawsAreSixAtMost();
         theTapeHas400BytesAtMost();
+        theSixthOnPaper();
         noneIsInForceAtFirst();
         rowsOfLettersAreLongest();
         wordsAreWhole();
@@ -20,12 +21,15 @@ public final class BoundsOfTerms2Test extends Kit {
         testsAndTheirParts();
         sumsAndTheirParts();
         numbersGoTo1000();
+        wordsBehindNumbers();
         partsAreFiftyAtMost();
         partsOfEachLaw();
         bracketsAreEightAtMost();
+        bracketsBehindEachSign();
         theEndsFault();
         othersWhereWaitsIsAsked();
         othersElse();
+        wordsOfEachCustomer();
         brokenBeyondTheMost();
         brokenBetween();
         dividedBy0();
@@ -56,6 +60,22 @@ public final class BoundsOfTerms2Test extends Kit {
             x.force(i);
             due("by law " + i, x.of(0, 5), 30 + i);
         }
+    }
+
+    private static void theSixthOnPaper() {
+        says("LAWS are TEXTS, 6 at most: the last of them, too, is asked on the days to come");
+        ThirteenthLoaf x = with(1);
+        for (int i = 0; i < 6; i++) {
+            law(x, i < 5 ? "wants 0" : "wants 13");
+        }
+        x.force(5);
+        due("year", x.year(NONE), 1);
+        due("never", x.never(0, 1), 0);
+        due("queues", x.queues(0, 3), 3);
+        x.force(4);
+        due("year by the fifth", x.year(NONE), NONE);
+        due("never by the fifth", x.never(0, 1), 1);
+        due("queues by the fifth", x.queues(0, 3), 0);
     }
 
     private static void theTapeHas400BytesAtMost() {
@@ -303,6 +323,16 @@ public final class BoundsOfTerms2Test extends Kit {
         dueWants("wants 1000-961", 39);
     }
 
+    private static void wordsBehindNumbers() {
+        says("PART: NUMBER (to 1,000) | .. | \"who\" | \"base\" | ..: in any row");
+        dueWants("wants 1000*base/1000", 6);
+        dueWants("wants base*1000/1000", 6);
+        dueWants("wants 1000/500*day", 18);
+        dueWants("wants 999-999+had", 3);
+        dueWaits("waits if 1000*theirs=1000*rank-1000*2", 1);
+        dueFault("wants 1000 base", 11);
+    }
+
     private static void partsAreFiftyAtMost() {
         says("50 PARTS that are NUMBERS and words (FAULT at the 51st)");
         String fifty = "wants 1" + "+1".repeat(49);
@@ -362,6 +392,32 @@ public final class BoundsOfTerms2Test extends Kit {
         dueWants("wants 5 if " + "not(".repeat(8) + "1<2" + ")".repeat(8), 5);
     }
 
+    private static void bracketsBehindEachSign() {
+        says("8 brackets of both kinds within one another: what stands ahead does not matter");
+        for (String sign : new String[] {"or ", "and "}) {
+            String many = ("1<2 " + sign).repeat(12);
+            dueFault("waits if " + many + "((((((((1<2))))))))", NONE);
+            dueFault("waits if " + many + "(((((((((1<2)))))))))", 9 + many.length() + 8);
+            dueFault("waits if (((((((1<2 " + sign + "(1<2))))))))", NONE);
+            dueFault("waits if ((((((((1<2 " + sign + "(1<2)))))))))", 21 + sign.length());
+            dueFault("waits if ((((((((1<2 " + sign + "1<2 " + sign + "(1<2)))))))))", 25 + 2 * sign.length());
+            dueFault("waits if ((((((((1<2 " + sign + "1<2))))))))" + sign + "((((((((1<2))))))))", NONE);
+        }
+        for (String sign : new String[] {"+", "-", "*", "/"}) {
+            String many = ("1" + sign).repeat(12);
+            dueFault("wants " + many + "[[[[[[[[1]]]]]]]]", NONE);
+            dueFault("wants " + many + "[[[[[[[[[1]]]]]]]]]", 6 + many.length() + 8);
+            dueFault("wants [[[[[[[1" + sign + "[1]]]]]]]]", NONE);
+            dueFault("wants [[[[[[[[1" + sign + "[1]]]]]]]]]", 16);
+            dueFault("wants [[[[[[[[1" + sign + "1" + sign + "[1]]]]]]]]]", 18);
+            dueFault("wants [[[[[[[[1" + sign + "1]]]]]]]]" + sign + "[[[[[[[[1]]]]]]]]", NONE);
+        }
+        for (String sign : new String[] {"<", ">", "="}) {
+            dueFault("waits if ((((((([1]" + sign + "[1])))))))", NONE);
+            dueFault("waits if ((((((((1" + sign + "[1]))))))))", 19);
+        }
+    }
+
     private static void theEndsFault() {
         says("FAULT: the first TOKEN that can't go on there (the end's: the TEXT's length)");
         dueFault(" ", 1);
@@ -397,6 +453,34 @@ public final class BoundsOfTerms2Test extends Kit {
         dueWants("wants 8 if other=0-1", 8);
         dueWants("wants 8 if theirs=0-1", 8);
         dueWants("wants 8 if not other=0-1 or not theirs=0-1", 6);
+    }
+
+    private static void wordsOfEachCustomer() {
+        says("It is asked of a CUSTOMER on a DAY");
+        ThirteenthLoaf x = new ThirteenthLoaf();
+        for (int i = 0; i < 8; i++) {
+            x.customer(30 - i, 9 - i, i / 3 % 2);
+            x.put(i, 3, 20 + i * i % 7);
+        }
+        x.terms(2, 17);
+        String[] laws = {"wants who*4", "wants base", "wants rank+1", "wants oven*5", "wants had", "wants day"};
+        for (int law = 0; law < 6; law++) {
+            due("law", rule(x, laws[law]), law);
+            for (int i = 0; i < 8; i++) {
+                int[] words = {i * 4, 30 - i, 10 - i, i / 3 % 2 * 5, 20 + i * i % 7, 17};
+                due(laws[law] + " of " + i, x.of(i, 5), words[law]);
+            }
+        }
+        ThirteenthLoaf y = with(1, 1, 1, 1);
+        for (int i = 0; i < 4; i++) {
+            y.put(i, 1, 2 * i);
+        }
+        rule(y, "waits if theirs=rank+2 and other=who+1");
+        for (int i = 0; i < 4; i++) {
+            for (int other = 0; other < 4; other++) {
+                due(i + " for " + other, y.waits(i, other), i == other ? NONE : other == i + 1 ? 1 : 0);
+            }
+        }
     }
 
     private static void brokenBeyondTheMost() {

@@ -27,6 +27,8 @@ public final class BoundsOfTerms3Test extends Kit {
         yearBeyondTheMost();
         yearByOrders();
         wayByTheLowestSet();
+        wayThatCanStillBeDone();
+        yearOfEightInAnyOrder();
         chancesOfJustSoMany();
         sightsAreEightAtMost();
         sightsAsTold();
@@ -483,6 +485,52 @@ public final class BoundsOfTerms3Test extends Kit {
         shorter.put(1, 0, 8);
         due("two days then", shorter.year(NONE), 2);
         due("all behind the last of them", shorter.year(1), 3);
+    }
+
+    private static void wayThatCanStillBeDone() {
+        says("the lowest set of CUSTOMERS .. that had one by then, from which it is still done in as few");
+        ThirteenthLoaf x = with(0, 0, 0);
+        x.terms(0, 3);
+        rule(x, "wants 3 if who=2 and day=0; wants 1 if day>0");
+        // Then one a DAY, whoever is the last: 2 again would be lower, but too late for both others.
+        due("three days", x.year(NONE), 3);
+        due("2 alone", x.year(0), 4);
+        due("0 too", x.year(1), 5);
+        due("all", x.year(2), 7);
+        rule(x, "wants 3 if who=0 or day>0");
+        // The second DAY has no ORDER in which 0 gets none, which does no harm.
+        due("two days", x.year(NONE), 2);
+        due("0 alone", x.year(0), 1);
+        due("all at once then", x.year(1), 7);
+        rule(x, "wants 0; wants 3 if day=0 and who<2; wants 3 if day=2 and who>0");
+        due("nothing on the second day", x.year(NONE), 3);
+        due("0 and 1", x.year(0), 3);
+        due("still 0 and 1", x.year(1), 3);
+        due("1 again, and 2", x.year(2), 7);
+    }
+
+    private static void yearOfEightInAnyOrder() {
+        says("each by an ORDER of its own: also if it is the only one");
+        ThirteenthLoaf x = with(2, 2, 2, 2, 2, 2, 2, 2);
+        x.terms(0, 2);
+        String[] laws = {"waits if other=7", "waits if other=6", "waits if other=0", "waits if who<other",
+            "waits if who>other", "waits if who=7"};
+        for (int law = 0; law < 6; law++) {
+            rule(x, laws[law]);
+            due(laws[law] + ": one day", x.year(NONE), 1);
+            due(laws[law] + ": all", x.year(0), 255);
+        }
+        for (int early = 0; early < 8; early++) {
+            ThirteenthLoaf y = with(1, 1, 1, 1, 1, 1, 1, 1);
+            y.terms(0, 8);
+            y.terms(3, 7);
+            // Loaf 8 is the first one's, and loaf 16 the first one's on the next DAY.
+            rule(y, "waits if who>" + early + " and other=" + early + " and day=0; waits if who<" + early
+                    + " and other=" + early + " and day=0");
+            due("eight days, " + early + " first", y.year(NONE), 8);
+            due("behind the first", y.year(0), 1 << early);
+            due("behind the last", y.year(7), 255);
+        }
     }
 
     private static void chancesOfJustSoMany() {

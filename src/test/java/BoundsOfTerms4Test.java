@@ -3,6 +3,7 @@ public final class BoundsOfTerms4Test extends Kit {
     public static void main(String[] args) {
         seedsFrom0ToAMillion();
         drawsModulo1000003();
+        drawsThatAreSmall();
         drawsOfAll();
         drawsGoOnFromDayToDay();
         whoCanBeServedNext();
@@ -18,6 +19,7 @@ public final class BoundsOfTerms4Test extends Kit {
         imagesKeepAllElse();
         imagesKeepAsManyAsThereCanBe();
         imagesKeepAboutWhom();
+        imagesKeepEachText();
         imagesDoNotKeep();
         imagesStay();
         constants();
@@ -53,6 +55,19 @@ public final class BoundsOfTerms4Test extends Kit {
         x.queues(870345, 1);
         // 0, then 12,345 of the two that are left.
         due("on from 0", digits(x.drawn(0, 1), x.drawn(1, 1), x.drawn(2, 1)), 21);
+    }
+
+    private static void drawsThatAreSmall() {
+        says("a DRAW of m: s becomes (s times 1103 and 12345) modulo 1,000,003, it is s modulo m");
+        int[] seeds = {870345, 413408, 956474, 499537, 42600, 585666, 128729, 671795};
+        // From draw 1 on the next draws are 13448, 14551 .., of the seven others 1, 5, 2, 6, 3, 0, 4.
+        int[] seconds = {5, 2, 6, 2, 7, 3, 0, 4};
+        for (int draw = 0; draw < 8; draw++) {
+            ThirteenthLoaf x = with(1, 1, 1, 1, 1, 1, 1, 1);
+            x.queues(seeds[draw], 1);
+            due("the draw is just " + draw, x.drawn(draw, 1), 0);
+            due("the second behind " + draw, x.drawn(seconds[draw], 1), 1);
+        }
     }
 
     private static void drawsOfAll() {
@@ -325,6 +340,25 @@ public final class BoundsOfTerms4Test extends Kit {
         due("the count", x.counts(0, 0), 0);
         due("the last one has a blessed loaf", x.wrong(0), 1);
         due("by every order", x.wrong(1), 40320);
+    }
+
+    private static void imagesKeepEachText() {
+        says("IMAGES 0, 1 keep all but ..: the TEXTS of 6 LAWS, also if others were read since");
+        ThirteenthLoaf x = with(1);
+        x.image(0);
+        for (int i = 0; i < 6; i++) {
+            law(x, "wants 1" + i);
+        }
+        x.image(1);
+        x.back(0);
+        for (int i = 0; i < 6; i++) {
+            due("read again", law(x, "wants 2" + i), i);
+        }
+        x.back(1);
+        for (int i = 0; i < 6; i++) {
+            x.force(i);
+            due("law " + i + " is as it was", x.of(0, 5), 10 + i);
+        }
     }
 
     private static void imagesDoNotKeep() {

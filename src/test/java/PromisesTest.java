@@ -698,6 +698,10 @@ public final class PromisesTest extends Kit {
         much.put(0, 4, 999987);
         due("by BEST, 0 up to the most bought", much.bake(1), 2);
         due("by BEST, the most bought", much.of(0, 4), 999999);
+        ThirteenthLoaf had = with(13, 5, 8);
+        had.put(1, 3, 9999);
+        due("he who gets none may have had the most", had.bake(0), 2);
+        due("had the most", had.of(1, 3), 9999);
     }
 
     private static void drawnByItsOrder() {
