@@ -158,7 +158,11 @@ public final class BoundsOfTerms1Test extends Kit {
     private static void othersStayAsOneComes() {
         says("HAD .. 0 at first, BOUGHT .. (0): of him who comes, not of the others");
         ThirteenthLoaf x = new ThirteenthLoaf();
+        for (int i = 0; i < 6; i++) {
+            law(x, "wants 7");
+        }
         for (int i = 0; i < 8; i++) {
+            x.force(i - 2);
             if (i % 2 == 0) {
                 due("comes", x.customer(20 + i, 9 - i, i / 2 % 2), i);
             } else {

@@ -26,7 +26,10 @@ public final class BoundsOfTerms2Test extends Kit {
         partsOfEachLaw();
         bracketsAreEightAtMost();
         bracketsBehindEachSign();
+        bracketsInEachClause();
         theEndsFault();
+        faultsBehindEachSign();
+        wordsThatAreNoParts();
         othersWhereWaitsIsAsked();
         othersElse();
         wordsOfEachCustomer();
@@ -35,8 +38,12 @@ public final class BoundsOfTerms2Test extends Kit {
         dividedBy0();
         cutTowards0();
         aTestIsBroken();
+        brokenAheadOfIt();
         aClauseHolds();
+        comparisonsOfEachPair();
         comparisonsWithinTests();
+        testsOfFour();
+        testsFarBehind();
         whatStandsBehindOr();
         whatStandsBehindAnd();
         wantsFrom0To40();
@@ -418,6 +425,17 @@ public final class BoundsOfTerms2Test extends Kit {
         }
     }
 
+    private static void bracketsInEachClause() {
+        says("8 brackets of both kinds within one another: in each CLAUSE anew");
+        for (int ahead = 0; ahead < 12; ahead++) {
+            String waits = "waits;".repeat(ahead);
+            dueFault(waits + "wants [[[[[[[[1]]]]]]]]", NONE);
+            dueFault(waits + "wants [[[[[[[[[1]]]]]]]]]", waits.length() + 14);
+            dueFault(waits + "waits if ((((((((1<2))))))))", NONE);
+            dueFault(waits + "waits if (((((((((1<2)))))))))", waits.length() + 17);
+        }
+    }
+
     private static void theEndsFault() {
         says("FAULT: the first TOKEN that can't go on there (the end's: the TEXT's length)");
         dueFault(" ", 1);
@@ -429,6 +447,46 @@ public final class BoundsOfTerms2Test extends Kit {
         dueFault("waits if 1 <   ", 15);
         dueFault("wants ? ?", 6);
         dueFault("wants 1 2 3", 8);
+    }
+
+    private static void faultsBehindEachSign() {
+        says("FAULT: the first TOKEN that can't go on there");
+        for (String sign : new String[] {"or", "and"}) {
+            for (int many = 0; many < 4; many++) {
+                String test = "waits if 1<2" + (" " + sign + " 1<2").repeat(many);
+                dueFault(test, NONE);
+                dueFault(test + " ?", test.length() + 1);
+                dueFault(test + " " + sign, test.length() + 1 + sign.length());
+                dueFault(test + " not", test.length() + 1);
+                dueFault(test + " 3", test.length() + 1);
+            }
+        }
+        for (String sign : new String[] {"+", "-", "*", "/"}) {
+            for (int many = 0; many < 4; many++) {
+                String sum = "wants 1" + (sign + "1").repeat(many);
+                dueFault(sum, NONE);
+                dueFault(sum + " ?", sum.length() + 1);
+                dueFault(sum + sign, sum.length() + 1);
+                dueFault(sum + " )", sum.length() + 1);
+                dueFault(sum + " 3", sum.length() + 1);
+            }
+        }
+        dueFault("waits if not not not 1<2 ?", 25);
+        dueFault("waits if not not not", 20);
+    }
+
+    private static void wordsThatAreNoParts() {
+        says("PART: NUMBER (to 1,000) | \"[\" SUM \"]\" | \"who\" | .. | \"theirs\": no other word");
+        for (String word : new String[] {"wants", "waits", "if", "or", "and", "not", "bases", "x"}) {
+            dueFault("wants " + word, 6);
+            dueFault("wants 1+" + word, 8);
+            dueFault("wants 2*" + word, 8);
+            dueFault("wants [" + word + "]", 7);
+            dueFault("waits if 1<" + word, 11);
+        }
+        for (String word : new String[] {"who", "base", "rank", "oven", "had", "day", "other", "theirs"}) {
+            dueFault("wants " + word + "+2*" + word + "-[" + word + "] if " + word + "=" + word, NONE);
+        }
     }
 
     private static void othersWhereWaitsIsAsked() {
@@ -552,6 +610,20 @@ public final class BoundsOfTerms2Test extends Kit {
         dueWaits("waits if not 1/0<1", 0);
     }
 
+    private static void brokenAheadOfIt() {
+        says("neither that nor its SUM is BROKEN: what another CLAUSE has does not matter");
+        dueWants("wants 1/0;wants 5", 5);
+        dueWants("wants 5;wants 1/0", 5);
+        dueWants("wants 3 if 1/0=1;wants 5", 5);
+        dueWants("wants 5;wants 3 if 1/0=1", 5);
+        dueWants("waits if 1/0=1;wants 5 if 1=1", 5);
+        dueWants("wants 1/0;wants 5 if 1/0=1", 6);
+        dueWaits("waits if 1/0=1;waits", 1);
+        dueWaits("waits;waits if 1/0=1", 1);
+        dueWaits("wants 1/0;waits if 1=1", 1);
+        dueWaits("wants 1/0;waits if 1/0=1", 0);
+    }
+
     private static void aClauseHolds() {
         says("A CLAUSE HOLDS, if its \"if\" (if it has one) is so, and neither that nor its SUM is BROKEN");
         dueWants("wants 8", 8);
@@ -573,6 +645,27 @@ public final class BoundsOfTerms2Test extends Kit {
         dueWants("wants 8 if 0=1", 6);
     }
 
+    private static void comparisonsOfEachPair() {
+        says("PLAIN: \"not\" PLAIN | .. | SUM (\"<\" | \">\" | \"=\") SUM");
+        for (int left = -2; left <= 3; left++) {
+            for (int right = -2; right <= 3; right++) {
+                boolean[] so = {left < right, left > right, left == right};
+                for (int sign = 0; sign < 3; sign++) {
+                    String test = sum(left) + "<>=".charAt(sign) + sum(right);
+                    dueWants("wants 9 if " + test, so[sign] ? 9 : 6);
+                    dueWants("wants 9 if not " + test, so[sign] ? 6 : 9);
+                    dueWants("wants 9 if not not " + test, so[sign] ? 9 : 6);
+                    dueWants("wants 9 if " + test + " or 1=2", so[sign] ? 9 : 6);
+                    dueWants("wants 9 if " + test + " and 1=1", so[sign] ? 9 : 6);
+                }
+            }
+        }
+    }
+
+    private static String sum(int number) {
+        return number < 0 ? "0-" + -number : String.valueOf(number);
+    }
+
     private static void comparisonsWithinTests() {
         says("SUM (\"<\" | \">\" | \"=\") SUM: so or not, wherever it stands");
         for (String so : new String[] {"0<1", "1>0", "1=1"}) {
@@ -589,6 +682,74 @@ public final class BoundsOfTerms2Test extends Kit {
             dueWants("wants 8 if " + not + " or 1=2", 6);
             dueWants("wants 8 if 1=1 and " + not, 6);
         }
+    }
+
+    private static boolean joined(boolean left, boolean or, boolean right) {
+        return or ? left || right : left && right;
+    }
+
+    /** Four in a row without brackets: "and" binds what stands beside it, then "or". */
+    private static boolean inARow(boolean[] so, boolean[] or) {
+        boolean any = false;
+        boolean all = so[0];
+        for (int i = 0; i < 3; i++) {
+            any |= or[i] && all;
+            all = or[i] ? so[i + 1] : all && so[i + 1];
+        }
+        return any || all;
+    }
+
+    /** A TEST of four, some of which are so, with three "or" or "and" between them; behind others. */
+    private static void dueFour(String ahead, int which, int signs) {
+        boolean[] so = new boolean[4];
+        String[] t = new String[4];
+        for (int i = 0; i < 4; i++) {
+            so[i] = (which >> i & 1) != 0;
+            t[i] = so[i] ? "1=1" : "1=2";
+        }
+        boolean[] or = new boolean[3];
+        String[] sign = new String[3];
+        for (int i = 0; i < 3; i++) {
+            or[i] = (signs >> i & 1) != 0;
+            sign[i] = or[i] ? " or " : " and ";
+        }
+        String start = ahead + "wants 9 if ";
+        dueWants(start + t[0] + sign[0] + t[1] + sign[1] + t[2] + sign[2] + t[3], inARow(so, or) ? 9 : 6);
+        boolean first = joined(so[0], or[0], so[1]);
+        boolean last = joined(so[2], or[2], so[3]);
+        dueWants(start + "(" + t[0] + sign[0] + t[1] + ")" + sign[1] + "(" + t[2] + sign[2] + t[3] + ")",
+                joined(first, or[1], last) ? 9 : 6);
+        dueWants(start + t[0] + sign[0] + "(" + t[1] + sign[1] + "(" + t[2] + sign[2] + t[3] + "))",
+                joined(so[0], or[0], joined(so[1], or[1], last)) ? 9 : 6);
+        dueWants(start + "((" + t[0] + sign[0] + t[1] + ")" + sign[1] + t[2] + ")" + sign[2] + t[3],
+                joined(joined(first, or[1], so[2]), or[2], so[3]) ? 9 : 6);
+        dueWants(start + "not(" + t[0] + sign[0] + t[1] + ")" + sign[1] + "not(" + t[2] + sign[2] + t[3] + ")",
+                joined(!first, or[1], !last) ? 9 : 6);
+    }
+
+    private static void testsOfFour() {
+        says("TEST: BOTH {\"or\" BOTH}. BOTH: PLAIN {\"and\" PLAIN}. PLAIN: \"not\" PLAIN | \"(\" TEST \")\"");
+        for (int which = 0; which < 16; which++) {
+            for (int signs = 0; signs < 8; signs++) {
+                dueFour("", which, signs);
+            }
+        }
+    }
+
+    private static void testsFarBehind() {
+        says("CLAUSE {\";\" CLAUSE}, 12 at most .. 50 PARTS: the last of them is asked as the first is");
+        for (int parts = 1; parts <= 39; parts += 2) {
+            String ahead = "wants 1" + "+1".repeat(parts - 1) + " if 1>1;";
+            for (int which = 0; which < 16; which += 5) {
+                for (int signs = 0; signs < 8; signs++) {
+                    dueFour(ahead, which, signs);
+                }
+            }
+        }
+        dueWants("wants 1+1+1-1;".repeat(11) + "wants 2+3", 5);
+        dueWants("wants 1+1+1-1;".repeat(11) + "wants 2+3*[4-2]", 8);
+        dueWaits("wants 1+1+1-1;".repeat(11) + "waits if 2+3=5", 1);
+        dueWaits("wants 1+1+1-1;".repeat(11) + "waits if 2+3=6 or 2=2", 1);
     }
 
     private static void whatStandsBehindOr() {

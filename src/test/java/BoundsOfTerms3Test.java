@@ -9,6 +9,7 @@ public final class BoundsOfTerms3Test extends Kit {
         ordersOfNobodyAndOne();
         ordersInWhichNobodyIsAhead();
         ordersInACircle();
+        ordersThatBeginButNeverEnd();
         nextLoavesOfHisOven();
         nextLoavesOfTheSecondOven();
         toldIfAnOrderOrNot();
@@ -36,6 +37,7 @@ public final class BoundsOfTerms3Test extends Kit {
         countsBySightsOfItsCustomers();
         claimsAreEightAtMost();
         fewestFalse();
+        falseWhoeverClaimsFirst();
         finish();
     }
 
@@ -164,6 +166,30 @@ public final class BoundsOfTerms3Test extends Kit {
         due("a circle of four", x.orders(), 0);
         rule(x, "waits if who=0 and other=1 or who=1 and other=0");
         due("a circle of two among four", x.orders(), 0);
+    }
+
+    private static void ordersThatBeginButNeverEnd() {
+        says("An ORDER of a DAY are all CUSTOMERS in a row, in which nobody is ahead of one for whom he WAITS");
+        for (int free = 0; free < 4; free++) {
+            ThirteenthLoaf x = with(13, 5, 8, 6);
+            // He can be served, and then nobody can.
+            rule(x, "waits if (who<" + free + " or who>" + free + ") and (other<" + free + " or other>" + free + ")");
+            due("he waits for nobody, " + free, x.waits(free, (free + 1) % 4), 0);
+            due("orders", x.orders(), 0);
+            due("best", x.best(0), NONE);
+            due("best in orders", x.best(1), 0);
+            due("best's first", x.best(2), NONE);
+            due("fairest", x.fairest(0), NONE);
+            due("fairest's first", x.fairest(1), NONE);
+            due("wrong", x.wrong(0), NONE);
+            due("wrong in orders", x.wrong(1), 0);
+            due("wrong's first", x.wrong(2), NONE);
+            due("chances", x.chances(free, 0) + x.chances(free, 1), 0);
+            due("never", x.never(free, 1), 0);
+            due("year", x.year(NONE), NONE);
+            due("bake by BEST", x.bake(1), -3);
+            due("bake by FAIREST", x.bake(2), -3);
+        }
     }
 
     private static void nextLoavesOfHisOven() {
@@ -502,6 +528,13 @@ public final class BoundsOfTerms3Test extends Kit {
         due("two days", x.year(NONE), 2);
         due("0 alone", x.year(0), 1);
         due("all at once then", x.year(1), 7);
+        x.terms(0, 2);
+        rule(x, "wants 1 if day=0 and not who=1; wants 2 if day=1 and who<2");
+        // 0 could have the first one, but the second DAY can't make up for 2.
+        due("two days again", x.year(NONE), 2);
+        due("2 alone, not 0", x.year(0), 4);
+        due("0 and 1 then", x.year(1), 7);
+        x.terms(0, 3);
         rule(x, "wants 0; wants 3 if day=0 and who<2; wants 3 if day=2 and who>0");
         due("nothing on the second day", x.year(NONE), 3);
         due("0 and 1", x.year(0), 3);
@@ -650,6 +683,16 @@ public final class BoundsOfTerms3Test extends Kit {
         due("the lowest", x.claim(0, LOWEST), -1);
         due("the highest", x.claim(0, HIGHEST), -1);
         due("none came", x.count(3), 0);
+    }
+
+    private static void falseWhoeverClaimsFirst() {
+        says("FALSE: the fewest that must be, whatever the ORDER of that DAY");
+        ThirteenthLoaf x = with(1, 1, 1, 1, 1, 1, 1, 1);
+        for (int many = 1; many <= 8; many++) {
+            due("claim", x.claim(8 - many, 5), many);
+            due("all of them are false", x.wrong(0), many);
+            due("in all orders", x.wrong(1), 40320);
+        }
     }
 
     private static void fewestFalse() {
