@@ -6,6 +6,8 @@ public final class BoundsOfTerms2Test extends Kit {
     public static void main(String[] args) {
         lawsAreSixAtMost();
         theTapeHas400BytesAtMost();
+        lawsOf400Bytes();
+        lawsOneBehindTheOther();
         theSixthOnPaper();
         noneIsInForceAtFirst();
         rowsOfLettersAreLongest();
@@ -66,6 +68,38 @@ public final class BoundsOfTerms2Test extends Kit {
         for (int i = 0; i < 6; i++) {
             x.force(i);
             due("by law " + i, x.of(0, 5), 30 + i);
+        }
+    }
+
+    private static void lawsOf400Bytes() {
+        says("on a TAPE of at most 400 bytes: what stands at the very end counts as what stands ahead");
+        String[] ends = {"wants 5 if 1=2 or 1=2 or base=6", "wants 5 if 1=1 and 1=1 and base=6",
+            "wants 5 if not not not base=7", "wants 2+2-2+had", "wants 2*base/2-1", "wants 5 if (1=2 or (base=6))"};
+        for (String end : ends) {
+            dueWants(" ".repeat(400 - end.length()) + end, 5);
+            dueWants("wants 7;" + " ".repeat(392 - end.length()) + end, 5);
+            dueWants(end + " ".repeat(400 - end.length()), 5);
+        }
+        dueFault(" ".repeat(394) + "bases ", 394);
+        dueFault(" ".repeat(394) + "wants ", 400);
+    }
+
+    private static void lawsOneBehindTheOther() {
+        says("LAWS are TEXTS: nothing of an earlier one stays");
+        String[] ahead = {"wants 1/0-1/0 if 1/0=1/0", "wants 1+2+3+4+5+6+7+8+9", "waits if not not not day=1/0",
+            "wants day if 1000=1000 or 1000=999"};
+        for (String first : ahead) {
+            for (String then : new String[] {"wants 9 if not 1=2", "wants 9 if not not 1=1 and not 1=2",
+                "wants 9 if 1=2 or 1000=1000", "wants 9"}) {
+                ThirteenthLoaf x = with(6);
+                due("the first", law(x, first), 0);
+                due("the second", law(x, then), 1);
+                x.force(1);
+                due("'" + then + "' behind '" + first + "'", x.of(0, 5), 9);
+                // Nine loaves a DAY: the 13th is of the second.
+                due("the first day on paper", x.never(0, 1), 1);
+                due("the second day on paper", x.never(0, 2), 0);
+            }
         }
     }
 

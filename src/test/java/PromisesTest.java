@@ -702,6 +702,11 @@ public final class PromisesTest extends Kit {
         had.put(1, 3, 9999);
         due("he who gets none may have had the most", had.bake(0), 2);
         due("had the most", had.of(1, 3), 9999);
+        ThirteenthLoaf both = with(13, 13, 1);
+        both.customer(4, 0, 1);
+        both.customer(2, 0, 0);
+        due("of both ovens", both.bake(0), 2);
+        due("baked by each, one by one", both.count(14) * 100 + both.count(15), 2904);
     }
 
     private static void drawnByItsOrder() {
